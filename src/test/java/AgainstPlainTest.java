@@ -3,7 +3,7 @@ import java.util.Random;
 
 /** Random runs of up to 512 calls, the same on every machine, answered by the program and by PlainYard. */
 public final class AgainstPlainTest {
-    private static final int RUNS = 1500;
+    private static final int RUNS = 300;
     private static final int CALLS = 512;
     private static final String[] NAMES = {
         "form", "girth", "width", "holds", "level", "head", "days", "bolt", "flaw", "clear", "ripe", "fewest", "make",
