@@ -655,6 +655,11 @@ public final class CaskYard {
             int fewestBolts = LOOKED_AT + 1;
             int all = 1 << LOOKED_AT;
             int step = 1 << LOOKED_AT - boltsLaid;
+            // Where all of them do not give the PIECES, fewer do not either.
+            openSet(all - step);
+            if (!canGive(wides, narrows)) {
+                return 0;
+            }
             for (int set = all - step; set > 0; set -= step) {
                 int many = Integer.bitCount(set);
                 if (many < fewestBolts) {
@@ -730,14 +735,21 @@ public final class CaskYard {
             int part = 0;
             for (int p = 0; p < boltsLaid; p++) {
                 Bolt b = laid[p];
-                for (int i = 0; b != null && i < b.parts && part < parts; i++) {
-                    b.begin[i] += wideCut[part] * (narrow + 1) + narrowCut[part] * narrow;
-                    part++;
-                }
                 if (b != null) {
-                    b.dropEmptyParts();
+                    part = shortenBolt(b, part);
                 }
             }
+        }
+
+        /** The parts of a BOLT stand here from one on, as they were laid: behind the last of them. */
+        private int shortenBolt(Bolt b, int from) {
+            int part = from;
+            for (int i = 0; i < b.parts && part < parts; i++) {
+                b.begin[i] += wideCut[part] * (narrow + 1) + narrowCut[part] * narrow;
+                part++;
+            }
+            b.dropEmptyParts();
+            return part;
         }
     }
 }

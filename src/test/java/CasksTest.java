@@ -80,6 +80,8 @@ public final class CasksTest {
         Due.is("18 nothing met", true, () -> x.may(0, 5));
         x.tell(0, 1095, 3);
         Due.is("18 met what bars it", false, () -> x.may(0, 5));
+        x.bars(0, 5, true);
+        Due.is("18 met not what bars it", true, () -> x.may(1, 5));
         Due.is("18 what bars is let", true, () -> x.may(0, 3));
         Due.is("18 another cask", true, () -> x.may(1, 5));
         x.bars(3, 5, false);
@@ -186,6 +188,12 @@ public final class CasksTest {
         }
         Due.is("21 a full row", 40, () -> x.lacks(1, 0, 200, 1));
         Due.is("21 its part", 3, () -> x.lacks(1, 1, 5, 1));
+        CaskYard y = two();
+        for (int i = 0; i < 40; i++) {
+            y.tell(0, 400 - 10 * i, i == 0 ? 16 : 1);
+        }
+        Due.is("21 behind forty days of entries", 101, () -> y.lacks(0, 0, 500, 1));
+        Due.is("21 before forty days of entries", 10, () -> y.lacks(0, 0, 500, 0));
     }
 
     private static void promise22() {
@@ -284,6 +292,8 @@ public final class CasksTest {
         Due.illegal("25 level -1", () -> x.weighs(0, -1));
         Due.illegal("25 level of a cask that held none", () -> x.weighs(1, 11));
         Due.noSuch("25 cask 2", () -> x.weighs(2, 11));
+        x.tell(1, 0, 0);
+        Due.is("25 kind 0", 286, () -> x.weighs(1, 1));
         CaskYard y = BoltsTest.yard(600, 600, 600, 600);
         y.form(200, 2000, 2000, 40);
         y.make(1);

@@ -114,6 +114,8 @@ public final class FormsTest {
         Due.illegal("5 above", () -> x.holds(0, 11));
         Due.noSuch("5 form", () -> x.holds(1, 11));
         x.form(200, 2000, 2000, 40);
+        x.form(10, 102, 102, 8);
+        Due.is("5 just below one more", 827, () -> x.holds(2, 1));
         Due.is("5 the largest", 63661971, () -> x.holds(1, 200));
     }
 
@@ -128,6 +130,9 @@ public final class FormsTest {
         Due.illegal("6 below 0", () -> x.level(0, -1));
         Due.noSuch("6 form", () -> x.level(1, -1));
         x.form(200, 2000, 2000, 40);
+        x.form(10, 102, 102, 8);
+        Due.is("6 just held", 1, () -> x.level(2, 827));
+        Due.is("6 just not held", 2, () -> x.level(2, 828));
         Due.is("6 the largest", 200, () -> x.level(1, 63661971));
     }
 
