@@ -18,6 +18,8 @@ public final class BoltsTest {
         promise14Cut();
         promise14Parts();
         promise14Most();
+        promise14AllParts();
+        promise14AllBolts();
         Due.end("BoltsTest");
     }
 
@@ -273,5 +275,35 @@ public final class BoltsTest {
         Due.same("14 nothing is cut for it", "0-600", parts(x, 6));
         Due.is("14 there are 30", 30, () -> x.count(3));
         Due.noSuch("14 no form comes first", () -> x.make(1));
+    }
+
+    private static void promise14AllParts() {
+        CaskYard x = yard(51, 51, 51, 51, 51, 51, 51, 51);
+        x.form(10, 320, 60, 32);
+        for (int b = 0; b < 8; b++) {
+            x.flaw(b, 12, 13);
+            x.flaw(b, 25, 26);
+            x.flaw(b, 38, 39);
+        }
+        Due.is("14 eight bolts of four parts", 8, () -> x.fewest(1));
+        Due.is("14 all parts are cut", 0, () -> x.make(1));
+        Due.is("14 the last part's stave", 7, () -> x.stave(0, 31, 0));
+        Due.is("14 the eighth part's stave", 1, () -> x.stave(0, 7, 0));
+        for (int b = 0; b < 8; b++) {
+            Due.same("14 nothing is left of " + b, "", parts(x, b));
+        }
+    }
+
+    private static void promise14AllBolts() {
+        CaskYard x = new CaskYard();
+        x.form(10, 100, 60, 8);
+        for (int b = 0; b < 40; b++) {
+            x.bolt(b == 3 ? 116 : b == 39 ? 14 : 1);
+        }
+        x.days(1095);
+        Due.is("14 forty bolts", 0, () -> x.make(0));
+        Due.is("14 forty bolts, no set", -1, () -> x.make(0));
+        Due.is("23 the fortieth bolt", 39, () -> x.renew(0, 0));
+        Due.is("23 none of forty", -1, () -> x.renew(0, 0));
     }
 }
