@@ -1,7 +1,4 @@
-/**
- * Promises 8 to 14. A CASK of the small FORM (10, 100, 60, 8) needs four NARROW pieces of 14 (STAVES 0 2 4 6)
- * and four WIDE ones of 15 (STAVES 1 3 5 7), 116 in all.
- */
+/** Promises 8 to 14. What a CASK of the small FORM needs is told in Yards. */
 public final class BoltsTest {
     private BoltsTest() {
     }
@@ -18,40 +15,8 @@ public final class BoltsTest {
         promise14Cut();
         promise14Parts();
         promise14Most();
-        promise14AllParts();
         promise14AllBolts();
         Due.end("BoltsTest");
-    }
-
-    /** A yard with the small FORM and RIPE BOLTS of these widths. */
-    static CaskYard yard(int... widths) {
-        CaskYard x = new CaskYard();
-        x.form(10, 100, 60, 8);
-        for (int w : widths) {
-            x.bolt(w);
-        }
-        x.days(1095);
-        return x;
-    }
-
-    static String parts(CaskYard x, int bolt) {
-        StringBuilder all = new StringBuilder();
-        for (int i = 0; i < 5; i++) {
-            int at = i;
-            String from = Due.answer(() -> x.clear(bolt, at, 0));
-            if (!from.equals("NSE")) {
-                all.append(from).append('-').append(Due.answer(() -> x.clear(bolt, at, 1))).append(' ');
-            }
-        }
-        return all.toString().trim();
-    }
-
-    static String boltsOf(CaskYard x, int cask) {
-        StringBuilder all = new StringBuilder();
-        for (int k = 0; k < 8; k++) {
-            all.append(x.stave(cask, k, 0)).append(' ');
-        }
-        return all.toString().trim();
     }
 
     private static void promise8() {
@@ -78,9 +43,9 @@ public final class BoltsTest {
         }
         Due.is("9 the 41st", -1, () -> x.bolt(10));
         Due.is("9 there are 40", 40, () -> x.count(2));
-        Due.same("9 the least", "0-1", parts(x, 0));
-        Due.same("9 the widest", "0-600", parts(x, 1));
-        Due.same("9 the last", "0-49", parts(x, 39));
+        Due.same("9 the least", "0-1", Yards.parts(x, 0));
+        Due.same("9 the widest", "0-600", Yards.parts(x, 1));
+        Due.same("9 the last", "0-49", Yards.parts(x, 39));
     }
 
     private static void promise10() {
@@ -91,14 +56,14 @@ public final class BoltsTest {
         Due.is("10 a fourth", 4, () -> x.flaw(0, 50, 60));
         Due.is("10 a fifth", -1, () -> x.flaw(0, 70, 80));
         Due.is("10 a fifth in the first", -1, () -> x.flaw(0, 3, 4));
-        Due.same("10 nothing changed", "0-10 20-30 40-50 60-100", parts(x, 0));
+        Due.same("10 nothing changed", "0-10 20-30 40-50 60-100", Yards.parts(x, 0));
         Due.is("10 in a flaw", 4, () -> x.flaw(0, 12, 18));
         Due.is("10 at a beginning", 4, () -> x.flaw(0, 15, 22));
         Due.is("10 at an end", 4, () -> x.flaw(0, 95, 600));
-        Due.same("10 clipped", "0-10 22-30 40-50 60-95", parts(x, 0));
+        Due.same("10 clipped", "0-10 22-30 40-50 60-95", Yards.parts(x, 0));
         Due.is("10 a whole part", 3, () -> x.flaw(0, 40, 50));
         Due.is("10 over several", 2, () -> x.flaw(0, 5, 70));
-        Due.same("10 what is left", "0-5 70-95", parts(x, 0));
+        Due.same("10 what is left", "0-5 70-95", Yards.parts(x, 0));
         int[][] wrong = {{-1, 5}, {5, 5}, {6, 5}, {0, 601}, {600, 600}, {Integer.MIN_VALUE, Integer.MAX_VALUE}};
         for (int[] w : wrong) {
             Due.is("10 wrong " + w[0] + " " + w[1], -1, () -> x.flaw(0, w[0], w[1]));
@@ -106,7 +71,7 @@ public final class BoltsTest {
         Due.is("10 behind the wood", 2, () -> x.flaw(0, 599, 600));
         Due.is("10 all", 0, () -> x.flaw(0, 0, 600));
         Due.is("10 of nothing", 0, () -> x.flaw(0, 0, 1));
-        Due.same("10 nothing left", "", parts(x, 0));
+        Due.same("10 nothing left", "", Yards.parts(x, 0));
         Due.noSuch("10 bolt 1", () -> x.flaw(1, 0, 1));
         Due.noSuch("10 bolt -1", () -> x.flaw(-1, 5, 5));
         Due.noSuch("10 bolt 40", () -> x.flaw(40, 0, 1));
@@ -147,40 +112,40 @@ public final class BoltsTest {
     }
 
     private static void promise13() {
-        Due.is("13 no bolts", -1, () -> yard().fewest(0));
-        Due.is("13 just one", 1, () -> yard(116).fewest(0));
-        Due.is("13 one too little", -1, () -> yard(115).fewest(0));
-        Due.is("13 two to the last", 2, () -> yard(28, 88).fewest(0));
-        Due.is("13 enough wood, no cut", -1, () -> yard(27, 89).fewest(0));
-        Due.is("13 one for two", 1, () -> yard(28, 88, 116).fewest(0));
-        Due.is("13 eight", 8, () -> yard(14, 15, 14, 15, 14, 15, 14, 15).fewest(0));
-        Due.is("13 eight, a wide one short", -1, () -> yard(14, 15, 14, 15, 14, 15, 14, 14).fewest(0));
-        Due.noSuch("13 form 1", () -> yard(116).fewest(1));
-        Due.noSuch("13 form -1", () -> yard(116).fewest(-1));
-        CaskYard x = yard(116);
+        Due.is("13 no bolts", -1, () -> Yards.ripe().fewest(0));
+        Due.is("13 just one", 1, () -> Yards.ripe(116).fewest(0));
+        Due.is("13 one too little", -1, () -> Yards.ripe(115).fewest(0));
+        Due.is("13 two to the last", 2, () -> Yards.ripe(28, 88).fewest(0));
+        Due.is("13 enough wood, no cut", -1, () -> Yards.ripe(27, 89).fewest(0));
+        Due.is("13 one for two", 1, () -> Yards.ripe(28, 88, 116).fewest(0));
+        Due.is("13 eight", 8, () -> Yards.ripe(14, 15, 14, 15, 14, 15, 14, 15).fewest(0));
+        Due.is("13 eight, a wide one short", -1, () -> Yards.ripe(14, 15, 14, 15, 14, 15, 14, 14).fewest(0));
+        Due.noSuch("13 form 1", () -> Yards.ripe(116).fewest(1));
+        Due.noSuch("13 form -1", () -> Yards.ripe(116).fewest(-1));
+        CaskYard x = Yards.ripe(116);
         x.form(10, 160, 60, 8);
         Due.is("13 all alike, too little", -1, () -> x.fewest(1));
-        CaskYard y = yard(176);
+        CaskYard y = Yards.ripe(176);
         y.form(10, 160, 60, 8);
         Due.is("13 all alike", 1, () -> y.fewest(1));
-        Due.is("13 nothing is cut", "0-176", () -> parts(y, 0));
+        Due.is("13 nothing is cut", "0-176", () -> Yards.parts(y, 0));
         y.flaw(0, 21, 22);
         Due.is("13 a flaw in the first piece", -1, () -> y.fewest(1));
-        CaskYard z = yard(11 * 52, 11 * 52, 11 * 52, 7 * 52 - 1);
+        CaskYard z = Yards.ripe(11 * 52, 11 * 52, 11 * 52, 7 * 52 - 1);
         z.form(200, 2000, 2000, 40);
         Due.is("13 the largest, too little", -1, () -> z.fewest(1));
-        CaskYard w = yard(11 * 52, 11 * 52, 7 * 52, 11 * 52);
+        CaskYard w = Yards.ripe(11 * 52, 11 * 52, 7 * 52, 11 * 52);
         w.form(200, 2000, 2000, 40);
         Due.is("13 the largest", 4, () -> w.fewest(1));
     }
 
     private static void promise13Looks() {
-        CaskYard x = yard(1, 1, 1, 1, 1, 1, 1, 1, 200);
+        CaskYard x = Yards.ripe(1, 1, 1, 1, 1, 1, 1, 1, 200);
         Due.is("13 only eight are looked at", -1, () -> x.fewest(0));
         Due.is("13 in make, too", -1, () -> x.make(0));
-        CaskYard y = yard(1, 1, 1, 1, 1, 1, 1, 200);
+        CaskYard y = Yards.ripe(1, 1, 1, 1, 1, 1, 1, 200);
         Due.is("13 the eighth is", 1, () -> y.fewest(0));
-        CaskYard z = yard(116);
+        CaskYard z = Yards.ripe(116);
         for (int i = 0; i < 8; i++) {
             z.bolt(1);
         }
@@ -199,27 +164,27 @@ public final class BoltsTest {
     }
 
     private static void promise14() {
-        CaskYard x = yard(60, 60, 60);
+        CaskYard x = Yards.ripe(60, 60, 60);
         Due.noSuch("14 form 1", () -> x.make(1));
         Due.noSuch("14 form -1", () -> x.make(-1));
         Due.is("14 made", 0, () -> x.make(0));
         Due.is("14 there is one", 1, () -> x.count(3));
-        Due.same("14 of no width is no part", "", parts(x, 0));
-        Due.same("14 the first set", "56-60", parts(x, 1));
-        Due.same("14 not the others", "0-60", parts(x, 2));
-        Due.same("14 the staves", "1 0 1 0 1 0 1 0", boltsOf(x, 0));
+        Due.same("14 of no width is no part", "", Yards.parts(x, 0));
+        Due.same("14 the first set", "56-60", Yards.parts(x, 1));
+        Due.same("14 not the others", "0-60", Yards.parts(x, 2));
+        Due.same("14 the staves", "1 0 1 0 1 0 1 0", Yards.boltsOf(x, 0));
         Due.is("14 no set", -1, () -> x.make(0));
-        Due.same("14 nothing changes", "56-60 0-60", parts(x, 1) + " " + parts(x, 2));
+        Due.same("14 nothing changes", "56-60 0-60", Yards.parts(x, 1) + " " + Yards.parts(x, 2));
         Due.is("14 still one", 1, () -> x.count(3));
-        CaskYard y = yard(28, 88, 116);
+        CaskYard y = Yards.ripe(28, 88, 116);
         y.make(0);
-        Due.same("14 the fewest", "2 2 2 2 2 2 2 2", boltsOf(y, 0));
-        CaskYard z = yard(176);
+        Due.same("14 the fewest", "2 2 2 2 2 2 2 2", Yards.boltsOf(y, 0));
+        CaskYard z = Yards.ripe(176);
         z.form(10, 160, 60, 8);
         Due.is("14 all alike", 0, () -> z.make(1));
-        Due.same("14 all alike, staves", "0 0 0 0 0 0 0 0", boltsOf(z, 0));
+        Due.same("14 all alike, staves", "0 0 0 0 0 0 0 0", Yards.boltsOf(z, 0));
         Due.is("14 its form", 1, () -> z.formOf(0));
-        CaskYard w = yard(200);
+        CaskYard w = Yards.ripe(200);
         w.bolt(300);
         w.days(1094);
         w.make(0);
@@ -229,69 +194,52 @@ public final class BoltsTest {
     }
 
     private static void promise14Cut() {
-        CaskYard x = yard(50, 100, 50);
+        CaskYard x = Yards.ripe(50, 100, 50);
         x.make(0);
-        Due.same("14 wide ones first", "1 0 1 0 1 0 1 1", boltsOf(x, 0));
-        Due.same("14 wide ones first, parts", "45-50 71-100 0-50", parts(x, 0) + " " + parts(x, 1) + " " + parts(x, 2));
-        CaskYard y = yard(28, 88);
+        Due.same("14 wide ones first", "1 0 1 0 1 0 1 1", Yards.boltsOf(x, 0));
+        Due.same("14 wide ones first, parts", "45-50 | 71-100 | 0-50", Yards.allParts(x));
+        CaskYard y = Yards.ripe(28, 88);
         y.make(0);
-        Due.same("14 no wide one, or the rest would not fit", "0 1 0 1 1 1 1 1", boltsOf(y, 0));
-        Due.same("14 no part is left", "", parts(y, 0) + parts(y, 1));
-        CaskYard z = yard(100, 60);
+        Due.same("14 no wide one, or the rest would not fit", "0 1 0 1 1 1 1 1", Yards.boltsOf(y, 0));
+        Due.same("14 no part is left", "", Yards.parts(y, 0) + Yards.parts(y, 1));
+        CaskYard z = Yards.ripe(100, 60);
         z.make(0);
-        Due.same("14 narrow ones behind the wide ones", "0 0 0 0 1 0 1 0", boltsOf(z, 0));
-        Due.same("14 where they end", "88-100 28-60", parts(z, 0) + " " + parts(z, 1));
-        CaskYard w = yard(600, 58);
+        Due.same("14 narrow ones behind the wide ones", "0 0 0 0 1 0 1 0", Yards.boltsOf(z, 0));
+        Due.same("14 where they end", "88-100 28-60", Yards.parts(z, 0) + " " + Yards.parts(z, 1));
+        CaskYard w = Yards.ripe(600, 58);
         w.make(0);
-        Due.same("14 no more than wanted", "116-600 0-58", parts(w, 0) + " " + parts(w, 1));
+        Due.same("14 no more than wanted", "116-600 0-58", Yards.parts(w, 0) + " " + Yards.parts(w, 1));
     }
 
     private static void promise14Parts() {
-        CaskYard x = yard(150);
+        CaskYard x = Yards.ripe(150);
         x.flaw(0, 43, 50);
         x.make(0);
-        Due.same("14 part by part", "30-43 136-150", parts(x, 0));
-        CaskYard y = yard(200);
+        Due.same("14 part by part", "30-43 136-150", Yards.parts(x, 0));
+        CaskYard y = Yards.ripe(200);
         y.flaw(0, 0, 3);
         y.flaw(0, 18, 20);
         y.flaw(0, 30, 31);
         y.make(0);
-        Due.same("14 a part used up, one too small", "20-30 132-200", parts(y, 0));
-        CaskYard z = yard(60, 200);
+        Due.same("14 a part used up, one too small", "20-30 132-200", Yards.parts(y, 0));
+        CaskYard z = Yards.ripe(60, 200);
         z.flaw(0, 29, 31);
         z.flaw(1, 90, 110);
         z.make(0);
-        Due.same("14 of one bolt", "0-29 31-60", parts(z, 0));
-        Due.same("14 its two parts", "88-90 138-200", parts(z, 1));
+        Due.same("14 of one bolt", "0-29 31-60", Yards.parts(z, 0));
+        Due.same("14 its two parts", "88-90 138-200", Yards.parts(z, 1));
     }
 
     private static void promise14Most() {
-        CaskYard x = yard(600, 600, 600, 600, 600, 600, 600);
+        CaskYard x = Yards.ripe(600, 600, 600, 600, 600, 600, 600);
         for (int i = 0; i < 30; i++) {
             Due.is("14 cask", i, () -> x.make(0));
         }
         Due.is("14 the 31st", -1, () -> x.make(0));
         Due.is("14 though a set gives it", 1, () -> x.fewest(0));
-        Due.same("14 nothing is cut for it", "0-600", parts(x, 6));
+        Due.same("14 nothing is cut for it", "0-600", Yards.parts(x, 6));
         Due.is("14 there are 30", 30, () -> x.count(3));
         Due.noSuch("14 no form comes first", () -> x.make(1));
-    }
-
-    private static void promise14AllParts() {
-        CaskYard x = yard(51, 51, 51, 51, 51, 51, 51, 51);
-        x.form(10, 320, 60, 32);
-        for (int b = 0; b < 8; b++) {
-            x.flaw(b, 12, 13);
-            x.flaw(b, 25, 26);
-            x.flaw(b, 38, 39);
-        }
-        Due.is("14 eight bolts of four parts", 8, () -> x.fewest(1));
-        Due.is("14 all parts are cut", 0, () -> x.make(1));
-        Due.is("14 the last part's stave", 7, () -> x.stave(0, 31, 0));
-        Due.is("14 the eighth part's stave", 1, () -> x.stave(0, 7, 0));
-        for (int b = 0; b < 8; b++) {
-            Due.same("14 nothing is left of " + b, "", parts(x, b));
-        }
     }
 
     private static void promise14AllBolts() {

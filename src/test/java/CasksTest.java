@@ -19,16 +19,8 @@ public final class CasksTest {
         Due.end("CasksTest");
     }
 
-    /** Day 1095, CASKS 0 and 1 of the small FORM out of BOLT 0, and a BOLT 1 of 40. */
-    private static CaskYard two() {
-        CaskYard x = BoltsTest.yard(240, 40);
-        x.make(0);
-        x.make(0);
-        return x;
-    }
-
     private static void promise15() {
-        CaskYard x = BoltsTest.yard(100, 60);
+        CaskYard x = Yards.ripe(100, 60);
         x.make(0);
         Due.is("15 bolt", 1, () -> x.stave(0, 4, 0));
         Due.is("15 no past", 0, () -> x.stave(0, 4, 1));
@@ -47,7 +39,7 @@ public final class CasksTest {
     }
 
     private static void promise16() {
-        CaskYard x = BoltsTest.yard(600);
+        CaskYard x = Yards.ripe(600);
         x.form(10, 160, 60, 8);
         x.make(1);
         x.make(0);
@@ -74,7 +66,7 @@ public final class CasksTest {
     }
 
     private static void promise18() {
-        CaskYard x = two();
+        CaskYard x = Yards.two();
         x.bars(3, 5, true);
         x.bars(4, 4, true);
         Due.is("18 nothing met", true, () -> x.may(0, 5));
@@ -98,7 +90,7 @@ public final class CasksTest {
     }
 
     private static void promise19() {
-        CaskYard x = two();
+        CaskYard x = Yards.two();
         Due.is("19 first", 1, () -> x.tell(0, 1095, 3));
         Due.is("19 another cask's", 1, () -> x.tell(1, 0, 3));
         Due.is("19 second", 2, () -> x.tell(0, 1095, 16));
@@ -130,7 +122,7 @@ public final class CasksTest {
     }
 
     private static void promise20() {
-        CaskYard x = two();
+        CaskYard x = Yards.two();
         Due.is("20 nothing told", -1, () -> x.held(0, 1095, 1095));
         x.tell(0, 1000, 3);
         x.days(10);
@@ -158,7 +150,7 @@ public final class CasksTest {
     }
 
     private static void promise21() {
-        CaskYard x = two();
+        CaskYard x = Yards.two();
         Due.is("21 all days", 100001, () -> x.lacks(0, 0, 100000, 0));
         Due.is("21 none empty", 0, () -> x.lacks(0, 0, 100000, 1));
         x.tell(0, 100, 3);
@@ -188,7 +180,7 @@ public final class CasksTest {
         }
         Due.is("21 a full row", 40, () -> x.lacks(1, 0, 200, 1));
         Due.is("21 its part", 3, () -> x.lacks(1, 1, 5, 1));
-        CaskYard y = two();
+        CaskYard y = Yards.two();
         for (int i = 0; i < 40; i++) {
             y.tell(0, 400 - 10 * i, i == 0 ? 16 : 1);
         }
@@ -197,7 +189,7 @@ public final class CasksTest {
     }
 
     private static void promise22() {
-        CaskYard x = two();
+        CaskYard x = Yards.two();
         x.tell(0, 1095, 3);
         x.days(1095);
         x.renew(1, 0);
@@ -219,7 +211,7 @@ public final class CasksTest {
         Due.noSuch("22 stave", () -> x.swap(0, 8, 1, 0));
         Due.noSuch("22 another", () -> x.swap(0, 0, 1, 8));
         Due.noSuch("22 another in one cask", () -> x.swap(0, 0, 0, -1));
-        CaskYard y = BoltsTest.yard(600);
+        CaskYard y = Yards.ripe(600);
         y.form(20, 120, 60, 10);
         y.make(0);
         y.make(1);
@@ -230,21 +222,21 @@ public final class CasksTest {
     }
 
     private static void promise23() {
-        CaskYard x = BoltsTest.yard(120, 30, 100);
+        CaskYard x = Yards.ripe(120, 30, 100);
         x.make(0);
         x.tell(0, 0, 3);
         x.flaw(2, 14, 20);
         Due.is("23 wide", 1, () -> x.renew(0, 1));
-        Due.same("23 cut", "15-30", BoltsTest.parts(x, 1));
+        Due.same("23 cut", "15-30", Yards.parts(x, 1));
         Due.is("23 no past", 0, () -> x.stave(0, 1, 1));
         Due.is("23 its bolt", 1, () -> x.stave(0, 1, 0));
         Due.is("23 others keep theirs", 8, () -> x.stave(0, 0, 1));
         Due.is("23 to the last", 1, () -> x.renew(0, 1));
-        Due.same("23 no part is left", "", BoltsTest.parts(x, 1));
+        Due.same("23 no part is left", "", Yards.parts(x, 1));
         Due.is("23 the part in which it fits", 2, () -> x.renew(0, 1));
-        Due.same("23 not the first part", "0-14 35-100", BoltsTest.parts(x, 2));
+        Due.same("23 not the first part", "0-14 35-100", Yards.parts(x, 2));
         Due.is("23 narrow", 2, () -> x.renew(0, 0));
-        Due.same("23 the first part", "35-100", BoltsTest.parts(x, 2));
+        Due.same("23 the first part", "35-100", Yards.parts(x, 2));
         x.flaw(2, 49, 600);
         x.tell(0, 0, 6);
         Due.is("23 none that can", -1, () -> x.renew(0, 3));
@@ -256,7 +248,7 @@ public final class CasksTest {
         Due.noSuch("23 stave 8", () -> x.renew(0, 8));
         Due.noSuch("23 stave -1", () -> x.renew(0, -1));
         Due.noSuch("23 cask 1", () -> x.renew(1, 0));
-        CaskYard y = BoltsTest.yard(116, 1, 1, 1, 1, 1, 1, 1, 1, 1, 1, 14);
+        CaskYard y = Yards.ripe(116, 1, 1, 1, 1, 1, 1, 1, 1, 1, 1, 14);
         y.make(0);
         Due.is("23 not only eight are looked at", 11, () -> y.renew(0, 0));
     }
@@ -276,7 +268,7 @@ public final class CasksTest {
     }
 
     private static void promise25() {
-        CaskYard x = two();
+        CaskYard x = Yards.two();
         Due.is("25 nothing known", -1, () -> x.weighs(0, 1));
         x.tell(0, 1095, 3);
         Due.is("25 by 1000", 734, () -> x.weighs(0, 2));
@@ -294,7 +286,7 @@ public final class CasksTest {
         Due.noSuch("25 cask 2", () -> x.weighs(2, 11));
         x.tell(1, 0, 0);
         Due.is("25 kind 0", 286, () -> x.weighs(1, 1));
-        CaskYard y = BoltsTest.yard(600, 600, 600, 600);
+        CaskYard y = Yards.ripe(600, 600, 600, 600);
         y.form(200, 2000, 2000, 40);
         y.make(1);
         y.tell(0, 0, 15);
@@ -303,7 +295,7 @@ public final class CasksTest {
     }
 
     private static void promise26() {
-        CaskYard x = two();
+        CaskYard x = Yards.two();
         Due.is("26 now", 1095, () -> x.count(0));
         Due.is("26 forms", 1, () -> x.count(1));
         Due.is("26 bolts", 2, () -> x.count(2));

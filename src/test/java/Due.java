@@ -8,8 +8,25 @@ final class Due {
 
     private static int rows = 0;
     private static int wrong = 0;
+    private static int sentences = 0;
+    private static int rowsBefore = 0;
+    private static String held = "";
 
     private Due() {
+    }
+
+    /** What the answers from here on are held against: the promise's number and the document's own words. */
+    static void sentence(int promise, String words) {
+        closeSentence();
+        sentences++;
+        rowsBefore = rows;
+        held = "promise " + promise + ", \"" + words + "\": ";
+    }
+
+    private static void closeSentence() {
+        if (sentences > 0 && rows == rowsBefore) {
+            same("a sentence without a test", "rows", "none");
+        }
     }
 
     /** The answer, or the exception's exact class: one of a subclass is not the one the document names. */
@@ -40,12 +57,14 @@ final class Due {
         rows++;
         if (!due.equals(got)) {
             wrong++;
-            System.out.println(what + " answered " + got + ", due is " + due);
+            System.out.println(held + what + " answered " + got + ", due is " + due);
         }
     }
 
     static void end(String name) {
-        System.out.println(name + ": " + rows + " answers, " + wrong + " not as due");
+        closeSentence();
+        String told = sentences == 0 ? "" : sentences + " sentences, ";
+        System.out.println(name + ": " + told + rows + " answers, " + wrong + " not as due");
         if (wrong != 0) {
             System.exit(1);
         }

@@ -16,12 +16,6 @@ public final class FormsTest {
         Due.end("FormsTest");
     }
 
-    private static CaskYard small() {
-        CaskYard x = new CaskYard();
-        x.form(10, 100, 60, 8);
-        return x;
-    }
-
     private static void promise1() {
         CaskYard x = new CaskYard();
         for (int what = 0; what < 4; what++) {
@@ -62,7 +56,7 @@ public final class FormsTest {
     }
 
     private static void promise3() {
-        CaskYard x = small();
+        CaskYard x = Yards.small();
         for (int y = 0; y <= 10; y++) {
             int at = y;
             Due.is("3 girth at " + y, GIRTHS[y], () -> x.girth(0, at));
@@ -82,7 +76,7 @@ public final class FormsTest {
     }
 
     private static void promise4() {
-        CaskYard x = small();
+        CaskYard x = Yards.small();
         for (int k = 0; k < 8; k++) {
             int at = k;
             Due.is("4 width at 5 of " + k, 12 + k % 2, () -> x.width(0, at, 5));
@@ -103,7 +97,7 @@ public final class FormsTest {
     }
 
     private static void promise5() {
-        CaskYard x = small();
+        CaskYard x = Yards.small();
         int[] due = {0, 286, 734, 1322};
         for (int l = 0; l < due.length; l++) {
             int at = l;
@@ -120,7 +114,7 @@ public final class FormsTest {
     }
 
     private static void promise6() {
-        CaskYard x = small();
+        CaskYard x = Yards.small();
         int[][] due = {{0, 0}, {1, 1}, {286, 1}, {287, 2}, {734, 2}, {735, 3}, {1322, 3}, {1323, 4}, {6120, 10}};
         for (int[] d : due) {
             Due.is("6 level for " + d[0], d[1], () -> x.level(0, d[0]));
@@ -137,7 +131,7 @@ public final class FormsTest {
     }
 
     private static void promise7() {
-        CaskYard x = small();
+        CaskYard x = Yards.small();
         Due.is("7 head", 19, () -> x.head(0));
         x.form(10, 2000, 355, 8);
         Due.is("7 head of 355", 113, () -> x.head(1));
